@@ -1,0 +1,188 @@
+import java.util.ArrayList;
+import java.util.List;
+
+/** Long runs of calls on many villages, each answer held against Model's. The runs are always the same. */
+public final class ModelTest {
+    private static final Checks CHECKS = new Checks("ModelTest");
+    private static final int VILLAGES = 400;
+    private static final int STEPS = 250;
+
+    private long seed = 20261119;
+    private StickVotes x;
+    private Model m;
+    private final List<String> names = new ArrayList<>();
+    private final List<String> boatNames = new ArrayList<>();
+
+    private ModelTest() {
+    }
+
+    public static void main(String[] args) {
+        ModelTest test = new ModelTest();
+        for (int village = 0; village < VILLAGES; village++) test.runVillage(village);
+        CHECKS.end();
+    }
+
+    /** A number from 0 to bound - 1, always the same ones in the same order. */
+    private int next(int bound) {
+        seed = seed * 6364136223846793005L + 1442695040888963407L;
+        return (int) ((seed >>> 33) % bound);
+    }
+
+    private void runVillage(int village) {
+        makeVillage();
+        for (int step = 0; step < STEPS; step++) {
+            String call = "village " + village + ", step " + step + ": ";
+            operate(call);
+            if (step % 10 == 9) askAll(call);
+        }
+    }
+
+    private void makeVillage() {
+        int people = 2 + (next(4) == 0 ? next(19) : next(6));
+        int boats = next(3) == 0 ? next(7) : next(3);
+        int[] numbers = {1 + (next(2) == 0 ? next(100) : next(8)), share(), share(), share(), share(),
+            next(4) == 0 ? next(10) : next(2), 1 + (next(8) == 0 ? next(20) : next(2)),
+            next(4) == 0 ? next(10) : next(3), next(4) == 0 ? next(31) : next(8), next(4)};
+        int[] boatOf = new int[people];
+        names.clear();
+        boatNames.clear();
+        for (int b = 0; b < boats; b++) boatNames.add("boa" + (char) ('a' + b));
+        for (int p = 0; p < people; p++) {
+            names.add("p" + (char) ('a' + p));
+            boatOf[p] = boats == 0 || next(3) == 0 ? Model.NONE : next(boats);
+        }
+        m = new Model(numbers, boats, boatOf);
+        x = Villages.of(m.setup(boatNames, names));
+    }
+
+    private int share() {
+        return next(3) == 0 ? next(101) : next(60);
+    }
+
+    /** Mostly a number below the bound, sometimes one that is a little off. */
+    private int about(int bound) {
+        return next(25) == 0 ? next(bound + 5) - 3 : next(Math.max(bound, 1));
+    }
+
+    private int somebody() {
+        return about(m.value(2));
+    }
+
+    private int someBoat() {
+        return about(m.boats);
+    }
+
+    private int someBasket() {
+        return about(next(3) == 0 ? 4 : 2);
+    }
+
+    private int someDays() {
+        return next(20) == 0 ? next(102) - 1 : 1 + next(6);
+    }
+
+    private void operate(String call) {
+        int p = somebody();
+        int o = next(3) == 0 ? p : somebody();
+        int b = someBasket();
+        int boat = someBoat();
+        int days = someDays();
+        int slot = about(2);
+        switch (next(22)) {
+            case 0: is(call + "sail", x.sail(boat, days), m.sail(boat, days)); break;
+            case 1: is(call + "delay", x.delay(boat, days), m.delay(boat, days)); break;
+            case 2: is(call + "comeHome", x.comeHome(boat), m.comeHome(boat)); break;
+            case 3: join(call, p, next(3) == 0 ? -2 : boat); break;
+            case 4: case 5: open(call, next(20) == 0 ? next(9) - 2 : 2 + next(3)); break;
+            case 6: case 7: case 8: give(call, p, somebody(), next(2) == 0 ? -2 : b); break;
+            case 9: is(call + "takeBack", x.takeBack(p), m.takeBack(p)); break;
+            case 10: case 11: case 12: case 13: lay(call, layer(p, o), o, b); break;
+            case 14: case 15: contest(call, p, o); break;
+            case 16: if (next(2) == 0) is(call + "close", x.close(), m.close()); break;
+            case 17: is(call + "recount", x.recount(), m.recount()); break;
+            case 18: is(call + "pass", x.pass(days), m.pass(days)); break;
+            case 19: is(call + "keep", x.keep(slot), m.keep(slot)); break;
+            case 20: is(call + "undo", x.undo(), m.undo()); break;
+            default: if (next(2) == 0) is(call + "restore", x.restore(slot), m.restore(slot));
+        }
+    }
+
+    /** Mostly who has the stick, so that many of them are laid. */
+    private int layer(int person, int owner) {
+        int carrier = m.stick(owner, 1);
+        if (next(4) == 0) return person;
+        return carrier >= 0 ? carrier : owner;
+    }
+
+    private void join(String call, int p, int boat) {
+        is(call + "join", x.join(p, boat), m.join(p, boat));
+    }
+
+    private void open(String call, int baskets) {
+        is(call + "open", x.open(baskets), m.open(baskets));
+    }
+
+    private void give(String call, int o, int c, int b) {
+        is(call + "give", x.give(o, c, b), m.give(o, c, b));
+    }
+
+    private void lay(String call, int p, int o, int b) {
+        is(call + "why", x.why(p, o, b), m.why(p, o, b));
+        is(call + "lay", x.lay(p, o, b), m.lay(p, o, b));
+    }
+
+    private void contest(String call, int p, int o) {
+        is(call + "contest", x.contest(p, o), m.contest(p, o));
+    }
+
+    private void askAll(String call) {
+        for (int what = -1; what <= 17; what++) is(call + "value " + what, x.value(what), m.value(what));
+        for (int i = -1; i <= m.value(2); i++) askPerson(call, i);
+        for (int b = -1; b <= m.boats; b++) {
+            for (int what = -1; what <= 5; what++) is(call + "boat", x.boat(b, what), m.boat(b, what));
+            is(call + "needIfHome", x.needIfHome(b), m.needIfHome(b));
+        }
+        for (int b = -1; b <= 4; b++) askBasket(call, b);
+        for (int v = -1; v <= m.value(13); v++) {
+            for (int what = -1; what <= 4; what++) is(call + "past", x.past(v, what), m.past(v, what));
+        }
+        for (int i = -1; i <= 31; i += 4) {
+            for (int what = -1; what <= 4; what++) is(call + "log", x.log(i, what), m.log(i, what));
+        }
+        is(call + "wrongOnes", x.wrongOnes(), m.wrongOnes());
+        is(call + "leads", x.leads(), m.leads());
+        is(call + "truly", x.truly(), m.truly());
+        is(call + "decisive", x.decisive(), m.decisive());
+        is(call + "lacks", x.lacks(), m.lacks());
+        int days = next(1002) - 1;
+        is(call + "needIn", x.needIn(days), m.needIn(days));
+        is(call + "needIn", x.needIn(days % 9), m.needIn(days % 9));
+        is(call + "bestDay", x.bestDay(days % 101), m.bestDay(days % 101));
+        is(call + "mightiest", x.mightiest(), m.mightiest());
+        CHECKS.is(call + "agrees", x.agrees(), m.agrees());
+        CHECKS.isReal(call + "seafaring", x.seafaring(), m.seafaring());
+        CHECKS.is(call + "view", Villages.view(x), m.view(names));
+        CHECKS.is(call + "story", Villages.story(x), m.story());
+        CHECKS.is(call + "setup", Villages.setup(x), m.setup(boatNames, names));
+    }
+
+    private void askPerson(String call, int i) {
+        for (int what = -1; what <= 7; what++) {
+            is(call + "person " + i + " " + what, x.person(i, what), m.person(i, what));
+        }
+        for (int what = -1; what <= 6; what++) {
+            is(call + "stick " + i + " " + what, x.stick(i, what), m.stick(i, what));
+        }
+        is(call + "carries " + i, x.carries(i), m.carries(i));
+    }
+
+    private void askBasket(String call, int b) {
+        is(call + "basket " + b, x.basket(b), m.basket(b));
+        is(call + "owners " + b, x.owners(b), m.owners(b));
+        CHECKS.is(call + "canWin " + b, x.canWin(b), m.canWin(b));
+        CHECKS.isReal(call + "share " + b, x.share(b), m.share(b));
+    }
+
+    private void is(String call, int got, int due) {
+        CHECKS.is(call, got, due);
+    }
+}
