@@ -1,6 +1,6 @@
 /**
- * One long run of calls on one object through the whole face, each call held against the answer that
- * ../shared/DOC.md asks for.
+ * One long run of calls on one object through the whole face: each call is held against the answer
+ * that ../shared/DOC.md asks for.
  */
 public final class LongRunTest {
     private static final Checks CHECKS = new Checks("LongRunTest");
@@ -17,6 +17,14 @@ public final class LongRunTest {
         openAndLay(x);
         contestAndClose(x);
         recountAndGoOn(x);
+        lookBack(x);
+        keepAndSailAgain(x);
+        layInTheSecondVote(x);
+        undoAndRestore(x);
+        strikeBehindTheClosing(x);
+        voteTheThirdTime(x);
+        loadWrongTexts(x);
+        loadAThirdVillage(x);
         CHECKS.end();
     }
 
@@ -208,5 +216,263 @@ public final class LongRunTest {
         CHECKS.is("stick(1, 0)", x.stick(1, 0), 1);
         CHECKS.is("stick(2, 0)", x.stick(2, 0), 1);
         CHECKS.is("stick(0, 0)", x.stick(0, 0), 0);
+    }
+
+    private static void lookBack(StickVotes x) {
+        CHECKS.is("value(13)", x.value(13), 2);
+        CHECKS.is("value(9)", x.value(9), 2);
+        CHECKS.is("value(8)", x.value(8), 1);
+        CHECKS.is("value(10)", x.value(10), -2);
+        CHECKS.is("value(11)", x.value(11), 0);
+        CHECKS.is("value(12)", x.value(12), 0);
+        CHECKS.is("value(1)", x.value(1), 0);
+        CHECKS.is("value(6)", x.value(6), 3);
+        CHECKS.is("value(14)", x.value(14), 11);
+        CHECKS.is("log(0, 0)", x.log(0, 0), 0);
+        CHECKS.is("log(0, 1)", x.log(0, 1), 0);
+        CHECKS.is("log(0, 2)", x.log(0, 2), 0);
+        CHECKS.is("log(0, 3)", x.log(0, 3), 5);
+        CHECKS.is("log(9, 0)", x.log(9, 0), 5);
+        CHECKS.is("log(9, 1)", x.log(9, 1), 1);
+        CHECKS.is("log(9, 3)", x.log(9, 3), 2);
+        CHECKS.is("log(11, 0)", x.log(11, 0), -2);
+        CHECKS.is("log(-1, 0)", x.log(-1, 0), -1);
+        CHECKS.is("log(0, 4)", x.log(0, 4), -1);
+        CHECKS.is("storyLength()", x.storyLength(), 129);
+        CHECKS.is("storyByte(0)", x.storyByte(0), 48);
+        CHECKS.is("storyByte(2)", x.storyByte(2), 115);
+        CHECKS.is("storyByte(128)", x.storyByte(128), 10);
+        CHECKS.is("storyByte(129)", x.storyByte(129), -2);
+        CHECKS.is("storyByte(-1)", x.storyByte(-1), -1);
+        CHECKS.is("viewLength()", x.viewLength(), 53);
+        CHECKS.is("viewByte(0)", x.viewByte(0), 97);
+        CHECKS.is("viewByte(52)", x.viewByte(52), 10);
+        CHECKS.is("viewByte(53)", x.viewByte(53), -2);
+        CHECKS.is("viewByte(-1)", x.viewByte(-1), -1);
+        CHECKS.is("named(ann, false)", x.named(Villages.letters("ann"), false), 0);
+        CHECKS.is("named(ann, true)", x.named(Villages.letters("ann"), true), -2);
+        CHECKS.is("named(gull, true)", x.named(Villages.letters("gull"), true), 0);
+        CHECKS.is("named(tern, true)", x.named(Villages.letters("tern"), true), 1);
+        CHECKS.is("named(0, false)", x.named(0, false), -1);
+        CHECKS.is("person(4, 3)", x.person(4, 3), 1);
+        CHECKS.is("lacks()", x.lacks(), 3);
+        CHECKS.is("leads()", x.leads(), -2);
+        CHECKS.is("truly()", x.truly(), -2);
+        CHECKS.is("decisive()", x.decisive(), 0);
+    }
+
+    private static void keepAndSailAgain(StickVotes x) {
+        CHECKS.is("give(3, 4, 0)", x.give(3, 4, 0), 1);
+        CHECKS.is("takeBack(3)", x.takeBack(3), 4);
+        CHECKS.is("stick(3, 0)", x.stick(3, 0), 0);
+        CHECKS.is("stick(3, 2)", x.stick(3, 2), -2);
+        CHECKS.is("give(3, 4, 1)", x.give(3, 4, 1), 1);
+        CHECKS.is("keep(1)", x.keep(1), 5);
+        CHECKS.is("keep(2)", x.keep(2), -1);
+        CHECKS.is("restore(0)", x.restore(0), -2);
+        CHECKS.is("sail(1, 2)", x.sail(1, 2), 1);
+        CHECKS.is("needIfHome(1)", x.needIfHome(1), 3);
+        CHECKS.is("needIfHome(0)", x.needIfHome(0), -4);
+        CHECKS.is("needIfHome(2)", x.needIfHome(2), -1);
+        CHECKS.is("value(6)", x.value(6), 2);
+        CHECKS.is("needIn(0)", x.needIn(0), 2);
+        CHECKS.is("needIn(1)", x.needIn(1), 2);
+        CHECKS.is("needIn(2)", x.needIn(2), 3);
+        CHECKS.is("needIn(5)", x.needIn(5), 2);
+        CHECKS.is("needIn(15)", x.needIn(15), 3);
+        CHECKS.is("needIn(1000)", x.needIn(1000), -1);
+        CHECKS.is("needIn(-1)", x.needIn(-1), -1);
+        CHECKS.is("bestDay(2)", x.bestDay(2), 0);
+        CHECKS.is("bestDay(5)", x.bestDay(5), 5);
+        CHECKS.is("bestDay(99)", x.bestDay(99), 5);
+        CHECKS.is("bestDay(0)", x.bestDay(0), -1);
+        CHECKS.is("delay(1, 3)", x.delay(1, 3), 10);
+        CHECKS.is("delay(1, 100)", x.delay(1, 100), -1);
+        CHECKS.is("boat(1, 1)", x.boat(1, 1), 10);
+        CHECKS.is("person(3, 2)", x.person(3, 2), 10);
+        CHECKS.is("mightiest()", x.mightiest(), 4);
+        CHECKS.is("carries(4)", x.carries(4), 8);
+    }
+
+    private static void layInTheSecondVote(StickVotes x) {
+        CHECKS.is("why(4, 3, 1)", x.why(4, 3, 1), 0);
+        CHECKS.is("why(4, 3, 0)", x.why(4, 3, 0), 3);
+        CHECKS.is("why(0, 1, 1)", x.why(0, 1, 1), 1);
+        CHECKS.is("canWin(0)", x.canWin(0), true);
+        CHECKS.is("canWin(2)", x.canWin(2), false);
+        CHECKS.is("lay(4, 3, 1)", x.lay(4, 3, 1), 1);
+        CHECKS.is("lay(0, 1, 1)", x.lay(0, 1, 1), 2);
+        CHECKS.is("stick(1, 5)", x.stick(1, 5), 1);
+        CHECKS.is("lay(0, 2, 0)", x.lay(0, 2, 0), 1);
+        CHECKS.is("lay(4, 4, 0)", x.lay(4, 4, 0), 2);
+        CHECKS.is("lay(1, 1, 0)", x.lay(1, 1, 0), -4);
+        CHECKS.is("wrongOnes()", x.wrongOnes(), 6);
+        CHECKS.is("value(16)", x.value(16), 2);
+        CHECKS.is("value(7)", x.value(7), 4);
+        CHECKS.is("leads()", x.leads(), 1);
+        CHECKS.is("truly()", x.truly(), 1);
+        CHECKS.is("decisive()", x.decisive(), 2);
+        CHECKS.is("lacks()", x.lacks(), 0);
+        CHECKS.is("owners(0)", x.owners(0), 20);
+        CHECKS.is("owners(1)", x.owners(1), 10);
+        CHECKS.is("owners(4)", x.owners(4), -1);
+        CHECKS.is("basket(1)", x.basket(1), 2);
+        CHECKS.isReal("share(1)", x.share(1), 0.5);
+        CHECKS.is("canWin(0)", x.canWin(0), true);
+        CHECKS.is("canWin(1)", x.canWin(1), true);
+        CHECKS.is("agrees()", x.agrees(), true);
+        CHECKS.is("viewLength()", x.viewLength(), 67);
+        CHECKS.is("viewByte(54)", x.viewByte(54), 42);
+    }
+
+    private static void undoAndRestore(StickVotes x) {
+        CHECKS.is("value(14)", x.value(14), 16);
+        CHECKS.is("undo()", x.undo(), 7);
+        CHECKS.is("stick(4, 0)", x.stick(4, 0), 0);
+        CHECKS.is("value(14)", x.value(14), 15);
+        CHECKS.is("agrees()", x.agrees(), true);
+        CHECKS.is("lay(4, 4, 0)", x.lay(4, 4, 0), 2);
+        CHECKS.is("restore(1)", x.restore(1), 5);
+        CHECKS.is("value(14)", x.value(14), 11);
+        CHECKS.is("value(7)", x.value(7), 0);
+        CHECKS.is("stick(3, 0)", x.stick(3, 0), 1);
+        CHECKS.is("boat(1, 0)", x.boat(1, 0), 0);
+        CHECKS.is("boat(1, 4)", x.boat(1, 4), 0);
+        CHECKS.is("undo()", x.undo(), 7);
+        CHECKS.is("value(7)", x.value(7), 4);
+        CHECKS.is("boat(1, 4)", x.boat(1, 4), 1);
+    }
+
+    private static void strikeBehindTheClosing(StickVotes x) {
+        CHECKS.is("close()", x.close(), 4);
+        CHECKS.is("value(10)", x.value(10), 1);
+        CHECKS.is("value(8)", x.value(8), 2);
+        CHECKS.is("past(1, 2)", x.past(1, 2), 2);
+        CHECKS.is("past(1, 3)", x.past(1, 3), 1);
+        CHECKS.is("past(2, 0)", x.past(2, 0), -2);
+        CHECKS.is("contest(0, 1)", x.contest(0, 1), 1);
+        CHECKS.is("value(10)", x.value(10), 0);
+        CHECKS.is("value(11)", x.value(11), 1);
+        CHECKS.is("past(1, 1)", x.past(1, 1), 3);
+        CHECKS.is("past(1, 3)", x.past(1, 3), 0);
+        CHECKS.is("comeHome(1)", x.comeHome(1), 1);
+        CHECKS.is("comeHome(1)", x.comeHome(1), -4);
+        CHECKS.is("comeHome(2)", x.comeHome(2), -1);
+        CHECKS.is("value(6)", x.value(6), 2);
+        CHECKS.is("join(3, -2)", x.join(3, -2), 2);
+        CHECKS.is("setupLength()", x.setupLength(), 163);
+        CHECKS.is("setupByte(162)", x.setupByte(162), 59);
+        CHECKS.is("setupByte(163)", x.setupByte(163), -2);
+        CHECKS.is("join(3, 0)", x.join(3, 0), 0);
+        CHECKS.is("person(3, 0)", x.person(3, 0), 0);
+        CHECKS.is("boat(0, 3)", x.boat(0, 3), 3);
+        CHECKS.is("recount()", x.recount(), 1);
+        CHECKS.is("value(10)", x.value(10), 1);
+        CHECKS.is("value(12)", x.value(12), 1);
+        CHECKS.is("truly()", x.truly(), 1);
+        CHECKS.is("basket(0)", x.basket(0), 1);
+        CHECKS.is("recount()", x.recount(), -5);
+        CHECKS.is("value(14)", x.value(14), 22);
+        CHECKS.is("log(20, 1)", x.log(20, 1), 4);
+        CHECKS.is("log(20, 2)", x.log(20, 2), 2);
+        CHECKS.is("log(21, 1)", x.log(21, 1), 7);
+        CHECKS.is("log(21, 3)", x.log(21, 3), 1);
+        CHECKS.is("pass(3)", x.pass(3), 0);
+        CHECKS.is("value(8)", x.value(8), 2);
+        CHECKS.is("pass(1)", x.pass(1), 0);
+        CHECKS.is("value(8)", x.value(8), 3);
+        CHECKS.is("contest(0, 4)", x.contest(0, 4), -5);
+        CHECKS.is("pass(1)", x.pass(1), 0);
+        CHECKS.is("value(1)", x.value(1), 1);
+        CHECKS.isReal("seafaring()", x.seafaring(), 10.0 / 50.0);
+    }
+
+    private static void voteTheThirdTime(StickVotes x) {
+        CHECKS.is("open(4)", x.open(4), 2);
+        CHECKS.is("stick(3, 0)", x.stick(3, 0), 1);
+        CHECKS.is("stick(3, 1)", x.stick(3, 1), 4);
+        CHECKS.is("stick(3, 2)", x.stick(3, 2), 1);
+        CHECKS.is("value(9)", x.value(9), 4);
+        CHECKS.is("sail(0, 1)", x.sail(0, 1), 3);
+        CHECKS.is("value(6)", x.value(6), 2);
+        CHECKS.is("canWin(3)", x.canWin(3), true);
+        CHECKS.is("lay(0, 1, 3)", x.lay(0, 1, 3), 1);
+        CHECKS.is("stick(1, 5)", x.stick(1, 5), 3);
+        CHECKS.is("lay(0, 2, 3)", x.lay(0, 2, 3), 2);
+        CHECKS.is("stick(2, 5)", x.stick(2, 5), 2);
+        CHECKS.is("contest(4, 2)", x.contest(4, 2), 2);
+        CHECKS.is("contest(4, 2)", x.contest(4, 2), -4);
+        CHECKS.is("contest(4, 3)", x.contest(4, 3), -4);
+        CHECKS.is("contest(3, 1)", x.contest(3, 1), -3);
+        CHECKS.is("lay(4, 3, 1)", x.lay(4, 3, 1), 1);
+        CHECKS.is("contest(0, 3)", x.contest(0, 3), 0);
+        CHECKS.is("contest(4, 3)", x.contest(4, 3), 0);
+        CHECKS.is("contest(4, 3)", x.contest(4, 3), 0);
+        CHECKS.is("contest(4, 1)", x.contest(4, 1), -4);
+        CHECKS.is("person(4, 3)", x.person(4, 3), 3);
+        CHECKS.is("person(0, 3)", x.person(0, 3), 1);
+        CHECKS.is("takeBack(1)", x.takeBack(1), -3);
+        CHECKS.is("close()", x.close(), 2);
+        CHECKS.is("value(10)", x.value(10), 3);
+        CHECKS.is("recount()", x.recount(), 1);
+        CHECKS.is("value(10)", x.value(10), -2);
+        CHECKS.is("past(2, 3)", x.past(2, 3), -2);
+        CHECKS.is("value(14)", x.value(14), 30);
+        CHECKS.is("log(0, 1)", x.log(0, 1), 3);
+        CHECKS.is("log(0, 2)", x.log(0, 2), 0);
+        CHECKS.is("log(29, 1)", x.log(29, 1), 7);
+        CHECKS.is("log(29, 3)", x.log(29, 3), -1);
+        CHECKS.is("log(30, 0)", x.log(30, 0), -2);
+        CHECKS.is("storyLength()", x.storyLength(), 371);
+        CHECKS.is("storyByte(368)", x.storyByte(368), 45);
+        CHECKS.is("storyByte(370)", x.storyByte(370), 10);
+        CHECKS.is("storyByte(371)", x.storyByte(371), -2);
+        CHECKS.is("agrees()", x.agrees(), true);
+        CHECKS.is("pass(1)", x.pass(1), 3);
+        CHECKS.is("person(3, 6)", x.person(3, 6), 1);
+        CHECKS.is("person(1, 6)", x.person(1, 6), 6);
+        CHECKS.isReal("seafaring()", x.seafaring(), 13.0 / 55.0);
+    }
+
+    private static void loadWrongTexts(StickVotes x) {
+        CHECKS.is("tapeLength()", x.tapeLength(), 0);
+        Villages.put(x, "season 5 shares 1 2 ");
+        CHECKS.is("tapeLength()", x.tapeLength(), 20);
+        CHECKS.is("truncate(21)", x.truncate(21), -1);
+        CHECKS.is("truncate(-1)", x.truncate(-1), -1);
+        CHECKS.is("truncate(0)", x.truncate(0), 20);
+        CHECKS.is("load()", x.load(), -1);
+        CHECKS.is("errorPosition()", x.errorPosition(), 20);
+        CHECKS.is("tapeLength()", x.tapeLength(), 0);
+        CHECKS.is("value(2)", x.value(2), 5);
+        CHECKS.is("undo()", x.undo(), 7);
+        CHECKS.is("value(0)", x.value(0), 10);
+        CHECKS.is("errorPosition()", x.errorPosition(), 20);
+        CHECKS.is("load()", x.load(), -1);
+        CHECKS.is("errorPosition()", x.errorPosition(), 0);
+    }
+
+    private static void loadAThirdVillage(StickVotes x) {
+        Villages.put(x, Villages.numbers(1, "100 0 0 0", 9, 1, 0, 0, 0) + "person z;person y;");
+        CHECKS.is("tapeLength()", x.tapeLength(), 87);
+        CHECKS.is("load()", x.load(), 2);
+        CHECKS.is("errorPosition()", x.errorPosition(), -2);
+        CHECKS.is("tapeLength()", x.tapeLength(), 0);
+        CHECKS.is("value(0)", x.value(0), 0);
+        CHECKS.is("value(3)", x.value(3), 0);
+        CHECKS.is("value(6)", x.value(6), 2);
+        CHECKS.is("value(8)", x.value(8), 0);
+        CHECKS.is("value(13)", x.value(13), 0);
+        CHECKS.is("value(14)", x.value(14), 0);
+        CHECKS.is("person(0, 3)", x.person(0, 3), 0);
+        CHECKS.is("number(5)", x.number(5), 9);
+        CHECKS.is("number(8)", x.number(8), 0);
+        CHECKS.is("named(z, false)", x.named(Villages.letters("z"), false), 0);
+        CHECKS.is("named(ann, false)", x.named(Villages.letters("ann"), false), -2);
+        CHECKS.is("past(2, 0)", x.past(2, 0), -2);
+        CHECKS.is("restore(1)", x.restore(1), -2);
+        CHECKS.is("undo()", x.undo(), -1);
+        CHECKS.isReal("seafaring()", x.seafaring(), 0);
+        CHECKS.is("agrees()", x.agrees(), true);
     }
 }
