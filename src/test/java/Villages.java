@@ -1,3 +1,5 @@
+import java.util.function.IntUnaryOperator;
+
 /** Makes villages from setup texts, and reads texts and states out of them. */
 final class Villages {
     /** Two boats, five people; NEEDs 3, 2, 3, 5 in the seasons, less 1 for each boat out, 2 at least. */
@@ -41,6 +43,23 @@ final class Villages {
         return of(PORT);
     }
 
+    /** The setup text of people pa, pb, .. and boats ba, bb, ..; boatOf tells each one's boat or -2. */
+    static String crowdText(String numbers, int people, int boats, IntUnaryOperator boatOf) {
+        StringBuilder text = new StringBuilder(numbers);
+        for (int b = 0; b < boats; b++) text.append("boat b").append((char) ('a' + b)).append(';');
+        for (int p = 0; p < people; p++) {
+            text.append("person p").append((char) ('a' + p));
+            int boat = boatOf.applyAsInt(p);
+            if (boat >= 0) text.append(" of b").append((char) ('a' + boat));
+            text.append(';');
+        }
+        return text.toString();
+    }
+
+    static StickVotes crowd(String numbers, int people, int boats, IntUnaryOperator boatOf) {
+        return of(crowdText(numbers, people, boats, boatOf));
+    }
+
     static int letters(String name) {
         int letters = 0;
         for (int i = 0; i < 6; i++) {
@@ -51,19 +70,22 @@ final class Villages {
 
     static String view(StickVotes x) {
         StringBuilder text = new StringBuilder();
-        for (int i = 0; i < x.viewLength(); i++) text.append((char) x.viewByte(i));
+        int length = x.viewLength();
+        for (int i = 0; i < length; i++) text.append((char) x.viewByte(i));
         return text.toString();
     }
 
     static String story(StickVotes x) {
         StringBuilder text = new StringBuilder();
-        for (int i = 0; i < x.storyLength(); i++) text.append((char) x.storyByte(i));
+        int length = x.storyLength();
+        for (int i = 0; i < length; i++) text.append((char) x.storyByte(i));
         return text.toString();
     }
 
     static String setup(StickVotes x) {
         StringBuilder text = new StringBuilder();
-        for (int i = 0; i < x.setupLength(); i++) text.append((char) x.setupByte(i));
+        int length = x.setupLength();
+        for (int i = 0; i < length; i++) text.append((char) x.setupByte(i));
         return text.toString();
     }
 
