@@ -376,12 +376,30 @@ public final class BoundsResultsTest {
             CHECKS.is("result", x.value(10), 0);
             x.pass(5);
             CHECKS.is("NEED is the same", x.value(6), 2);
-            x.contest(9, 0);
-            CHECKS.is("of three", x.value(10), 0);
-            x.contest(9, 1);
-            CHECKS.is("of two, just NEED, a tie", x.value(10), 0);
-            x.contest(9, 2);
-            CHECKS.is("of one, less than NEED", x.value(10), -2);
+            CHECKS.is("NEED of the day", x.needIn(0), 10);
+            int[] due = {0, 0, -2};
+            for (int p = 0; p < 3; p++) {
+                x.contest(9, p);
+                CHECKS.is("result of " + (3 - p), x.value(10), due[p]);
+                CHECKS.is("past(0, 1) of " + (3 - p), x.past(0, 1), 3 - p);
+                CHECKS.is("past(0, 2) of " + (3 - p), x.past(0, 2), 2);
+                CHECKS.is("past(0, 3) of " + (3 - p), x.past(0, 3), due[p]);
+            }
+            // Opened, laid four times, closed, struck three times; then it turns.
+            CHECKS.is("entries", x.value(14), 10);
+            CHECKS.is("log of the turn", Villages.entry(x, 9), "5 7 0 -1");
+        });
+        CHECKS.holds("Section 4", words, () -> {
+            StickVotes x = Villages.crowd(Villages.numbers(5, "10 50 50 50", 0, 1, 1, 9, 1), 20, 0, p -> -2);
+            x.give(0, 19, -2);
+            x.open(2);
+            x.lay(19, 0, 0);
+            for (int p = 1; p < 3; p++) x.lay(p, p, 1);
+            x.close();
+            x.pass(5);
+            CHECKS.is("recount()", x.recount(), 1);
+            CHECKS.is("result of a recount with the same NEED", x.past(0, 3), 1);
+            CHECKS.is("entries, no turn", x.value(14), 6);
         });
         CHECKS.holds("Section 4", words, () -> {
             StickVotes x = crowd(1, 1, 9, 1);
@@ -1018,6 +1036,16 @@ public final class BoundsResultsTest {
             for (int p = 3; p < 20; p++) x.lay(p, p, 3);
             CHECKS.isReal("share(0) of all", x.share(0), 1f / 20f);
             CHECKS.isReal("share(3) of all", x.share(3), 19f / 20f);
+            StickVotes y = crowd(1, 0, 3, 1);
+            y.give(0, 1, -2);
+            y.open(2);
+            y.lay(1, 0, 1);
+            y.contest(2, 0);
+            CHECKS.isReal("share(1) of a struck one alone", y.share(1), 0);
+            y.lay(3, 3, 0);
+            y.lay(4, 4, 1);
+            CHECKS.isReal("share(0) without the struck one", y.share(0), 0.5);
+            CHECKS.isReal("share(1) without the struck one", y.share(1), 0.5);
         });
     }
 }
