@@ -1,5 +1,6 @@
-import java.util.ArrayList;
 import java.util.List;
+import java.util.function.Consumer;
+import java.util.function.ToIntFunction;
 
 /** Promises 18 to 20 and section 8: slots, undo, and what counts as an operation. */
 public final class HistoryTest {
@@ -60,17 +61,32 @@ public final class HistoryTest {
     }
 
     private static void restoreBringsEverythingBack() {
+        String due = everythingBehind(x -> { });
+        CHECKS.is("much is changed", everythingBehind(HistoryTest::changeMuch).equals(due), false);
+        CHECKS.is("all behind restore", everythingBehind(HistoryTest::changeAndRestore), due);
+        CHECKS.is("all behind restore again", everythingBehind(x -> {
+            changeAndRestore(x);
+            changeMuch(x);
+            x.restore(0);
+        }), due);
         StickVotes x = busyVillage();
-        String due = Villages.everything(x);
+        changeAndRestore(x);
+        CHECKS.is("lay() goes on", x.lay(4, 4, 0), 2);
+    }
+
+    /** All that can be asked of the busy village behind further calls, up to some 150 of them. */
+    private static String everythingBehind(Consumer<StickVotes> calls) {
+        return Villages.everything(new Again(200, () -> {
+            StickVotes x = busyVillage();
+            calls.accept(x);
+            return x;
+        }));
+    }
+
+    private static void changeAndRestore(StickVotes x) {
         x.keep(0);
         changeMuch(x);
-        CHECKS.is("much is changed", Villages.everything(x).equals(due), false);
         x.restore(0);
-        CHECKS.is("all behind restore", Villages.everything(x), due);
-        changeMuch(x);
-        x.restore(0);
-        CHECKS.is("all behind restore again", Villages.everything(x), due);
-        CHECKS.is("lay() goes on", x.lay(4, 4, 0), 2);
     }
 
     /** A village in the middle of its second vote. */
@@ -110,42 +126,39 @@ public final class HistoryTest {
     }
 
     private static void undo() {
+        List<ToIntFunction<StickVotes>> eight = List.of(x -> x.lay(4, 4, 2), x -> x.close(),
+            x -> x.contest(2, 0), x -> x.recount(), x -> x.delay(0, 1), x -> x.sail(1, 1),
+            x -> x.comeHome(0), x -> x.pass(4));
         StickVotes x = busyVillage();
-        List<String> states = new ArrayList<>();
-        List<Runnable> operations = new ArrayList<>();
-        operations.add(() -> CHECKS.is("lay", x.lay(4, 4, 2), 1));
-        operations.add(() -> CHECKS.is("close", x.close(), 2));
-        operations.add(() -> CHECKS.is("contest", x.contest(2, 0), 3));
-        operations.add(() -> CHECKS.is("recount", x.recount(), 0));
-        operations.add(() -> CHECKS.is("delay", x.delay(0, 1), 10));
-        operations.add(() -> CHECKS.is("sail", x.sail(1, 1), 0));
-        operations.add(() -> CHECKS.is("comeHome", x.comeHome(0), 2));
-        operations.add(() -> CHECKS.is("pass", x.pass(4), 0));
-        for (Runnable operation : operations) {
-            states.add(Villages.everything(x));
-            operation.run();
-        }
+        answer(x, eight, 1, 2, 3, 0, 10, 0, 2, 0);
         for (int i = 7; i >= 0; i--) {
             CHECKS.is("undo() leaves " + i, x.undo(), i);
-            CHECKS.is("state behind undo " + i, Villages.everything(x), states.get(i));
+            CHECKS.is("state behind undo " + i, everythingBehind(eight, 8 - i), everythingBehind(eight.subList(0, i), 0));
         }
         CHECKS.is("undo() of none", x.undo(), -1);
-        CHECKS.is("state stays", Villages.everything(x), states.get(0));
-        x.close();
-        states.clear();
-        operations.clear();
-        operations.add(() -> CHECKS.is("join", x.join(3, 1), 0));
-        operations.add(() -> CHECKS.is("open", x.open(4), 2));
-        operations.add(() -> CHECKS.is("give", x.give(4, 2, -2), 1));
-        operations.add(() -> CHECKS.is("takeBack", x.takeBack(4), 2));
-        for (Runnable operation : operations) {
-            states.add(Villages.everything(x));
-            operation.run();
+        CHECKS.is("state stays", everythingBehind(eight, 9), everythingBehind(eight, 8));
+        List<ToIntFunction<StickVotes>> five = List.of(v -> v.close(), v -> v.join(3, 1), v -> v.open(4),
+            v -> v.give(4, 2, -2), v -> v.takeBack(4));
+        StickVotes y = busyVillage();
+        answer(y, five, 1, 0, 2, 1, 2);
+        for (int i = 4; i >= 0; i--) {
+            CHECKS.is("undo() leaves " + (i + 3), y.undo(), i + 3);
+            CHECKS.is("state behind undo", everythingBehind(five, 5 - i), everythingBehind(five.subList(0, i), 0));
         }
-        for (int i = 3; i >= 0; i--) {
-            CHECKS.is("undo() leaves", x.undo(), i + 1);
-            CHECKS.is("state behind undo", Villages.everything(x), states.get(i));
+    }
+
+    private static void answer(StickVotes x, List<ToIntFunction<StickVotes>> calls, int... due) {
+        CHECKS.is("calls", calls.size(), due.length);
+        for (int i = 0; i < due.length; i++) {
+            CHECKS.is("call " + i, calls.get(i).applyAsInt(x), due[i]);
         }
+    }
+
+    private static String everythingBehind(List<ToIntFunction<StickVotes>> calls, int undos) {
+        return everythingBehind(x -> {
+            for (ToIntFunction<StickVotes> call : calls) call.applyAsInt(x);
+            for (int i = 0; i < undos; i++) x.undo();
+        });
     }
 
     private static void undoReachesEightOperations() {
@@ -207,9 +220,22 @@ public final class HistoryTest {
     }
 
     private static void refusalsChangeNothing() {
+        String due = everythingBehind(HistoryTest::undoEight);
+        CHECKS.is("all stays", everythingBehind(x -> {
+            undoEight(x);
+            refuseMuch(x);
+        }), due);
         StickVotes x = busyVillage();
+        undoEight(x);
+        refuseMuch(x);
+        CHECKS.is("nothing to undo", x.undo(), -1);
+    }
+
+    private static void undoEight(StickVotes x) {
         for (int i = 0; i < 8; i++) x.undo();
-        String due = Villages.everything(x);
+    }
+
+    private static void refuseMuch(StickVotes x) {
         int[] odd = {-9, -3, -1, 4, 6, 20, 100, Integer.MAX_VALUE, Integer.MIN_VALUE};
         for (int i : odd) {
             CHECKS.is("sail(" + i + ", 1)", x.sail(i, 1), -1);
@@ -231,7 +257,5 @@ public final class HistoryTest {
             CHECKS.is("contest(" + i + ", 0)", x.contest(i, 0), -1);
             CHECKS.is("contest(0, " + i + ")", x.contest(0, i), -1);
         }
-        CHECKS.is("all stays", Villages.everything(x), due);
-        CHECKS.is("nothing to undo", x.undo(), -1);
     }
 }

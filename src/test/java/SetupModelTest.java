@@ -16,6 +16,8 @@ public final class SetupModelTest {
         "recounts", "boat", "person", "of", ";", ";", " ", "\n", "a", "b", "0", "7", "100", "1000",
         "012", "zzzzzz", "zzzzzzz", "A", "\t", ".", "person a;", "boat a;", " of a"};
     private static final int TEXTS = 20000;
+    // An object is used for at most 512 calls; a text needs 43 at most.
+    private static final int TEXTS_OF_ONE_OBJECT = 10;
 
     private long seed = 7;
     private List<String> tokens;
@@ -29,6 +31,7 @@ public final class SetupModelTest {
         SetupModelTest test = new SetupModelTest();
         StickVotes x = new StickVotes();
         for (int i = 0; i < TEXTS; i++) {
+            if (i % TEXTS_OF_ONE_OBJECT == 0) x = new StickVotes();
             String text = test.someText();
             Villages.put(x, text);
             boolean isLoaded = x.load() >= 0;

@@ -123,19 +123,33 @@ public final class SetupTest {
     }
 
     private static void loadOnAnError() {
-        StickVotes x = Villages.port();
-        x.open(3);
-        x.lay(0, 0, 1);
-        x.keep(1);
-        String before = Villages.everything(x);
-        Villages.put(x, Villages.numbers(20, "0 0 0 0", 0, 1, 0, 0, 0) + "boat cod;person zoe;");
-        CHECKS.is("load() with one person", x.load(), -1);
-        CHECKS.is("state behind an error", Villages.everything(x), before);
+        StickVotes x = laidInPort();
+        loadOnePerson(x);
+        String behind = Villages.everything(new Again(50, () -> {
+            StickVotes v = laidInPort();
+            loadOnePerson(v);
+            return v;
+        }));
+        String before = Villages.everything(new Again(50, SetupTest::laidInPort));
+        CHECKS.is("state behind an error", behind, before);
         CHECKS.is("tape behind an error", x.tapeLength(), 0);
         CHECKS.is("restore(1) behind an error", x.restore(1), 0);
         CHECKS.is("undo() behind an error", x.undo(), 2);
         CHECKS.is("undo() behind an error", x.undo(), 1);
         CHECKS.is("load() of nothing", new StickVotes().load(), -1);
+    }
+
+    private static StickVotes laidInPort() {
+        StickVotes x = Villages.port();
+        x.open(3);
+        x.lay(0, 0, 1);
+        x.keep(1);
+        return x;
+    }
+
+    private static void loadOnePerson(StickVotes x) {
+        Villages.put(x, Villages.numbers(20, "0 0 0 0", 0, 1, 0, 0, 0) + "boat cod;person zoe;");
+        CHECKS.is("load() with one person", x.load(), -1);
     }
 
     private static void loadReadsTokensGreedily() {
@@ -155,7 +169,8 @@ public final class SetupTest {
         for (char c = 'a'; c < 'g'; c++) text.append("boat zzzzz").append(c).append(';');
         for (char c = 'a'; c < 'u'; c++) text.append("person xyzxy").append(c).append(" of zzzzzf;");
         StickVotes x = Villages.of(text.toString());
-        CHECKS.is("greatest village", Villages.setup(x), text.toString());
+        String setup = Villages.setup(new Again(50, () -> Villages.of(text.toString())));
+        CHECKS.is("greatest village", setup, text.toString());
         CHECKS.is("its people", x.value(2), 20);
         CHECKS.is("its boats", x.value(3), 6);
         CHECKS.is("sail with 20", x.sail(5, 99), 20);
@@ -341,19 +356,20 @@ public final class SetupTest {
         String due = Villages.PORT.replace("ann of ami", "ann of bee").replace("bob of ami", "bob")
             .replace("eve", "eve of ami");
         CHECKS.is("setup behind join", Villages.setup(x), due);
+        CHECKS.is("setupLength() behind join", x.setupLength(), due.length());
         CHECKS.is("setupByte(-1)", x.setupByte(-1), -1);
         CHECKS.is("setupByte(MIN)", x.setupByte(Integer.MIN_VALUE), -1);
         CHECKS.is("setupByte(0)", x.setupByte(0), 's');
         CHECKS.is("setupByte(last)", x.setupByte(due.length() - 1), ';');
         CHECKS.is("setupByte(length)", x.setupByte(due.length()), -2);
         CHECKS.is("setupByte(MAX)", x.setupByte(Integer.MAX_VALUE), -2);
-        x.undo();
-        x.undo();
-        x.undo();
-        CHECKS.is("setup behind undo", Villages.setup(x), Villages.PORT);
-        Villages.put(x, "person");
-        x.load();
-        CHECKS.is("setup behind a load that failed", Villages.setup(x), Villages.PORT);
+        StickVotes y = Villages.port();
+        y.join(0, 1);
+        y.undo();
+        CHECKS.is("setup behind undo", Villages.setup(y), Villages.PORT);
+        Villages.put(y, "person");
+        y.load();
+        CHECKS.is("setup behind a load that failed", Villages.setup(y), Villages.PORT);
     }
 
     private static void tapeLength() {

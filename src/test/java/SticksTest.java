@@ -17,6 +17,7 @@ public final class SticksTest {
         basketAndOwners();
         carries();
         why();
+        whyChangesNothing();
         CHECKS.end();
     }
 
@@ -333,13 +334,26 @@ public final class SticksTest {
         CHECKS.is("why(0, 0, -1)", x.why(0, 0, -1), -1);
         CHECKS.is("why(5, 0, 0)", x.why(5, 0, 0), -1);
         CHECKS.is("why(0, 5, 0)", x.why(0, 5, 0), -1);
+        danCarriesThree(x);
+        CHECKS.is("why(3, 0, 1), owner ashore", x.why(3, 0, 1), 1);
+        x.sail(0, 5);
+        askWhy(x);
+        x.lay(3, 1, 0);
+        CHECKS.is("why(3, 0, 1), too many", x.why(3, 0, 1), 2);
+        CHECKS.is("why(3, 4, 1), ashore", x.why(3, 4, 1), 1);
+        CHECKS.is("why(3, 3, 1), the own one", x.why(3, 3, 1), 0);
+        x.close();
+        CHECKS.is("why(3, 0, 1), closed", x.why(3, 0, 1), -5);
+    }
+
+    private static void danCarriesThree(StickVotes x) {
         x.give(0, 3, 1);
         x.give(1, 3, -2);
         x.give(4, 3, -2);
         x.open(2);
-        CHECKS.is("why(3, 0, 1), owner ashore", x.why(3, 0, 1), 1);
-        x.sail(0, 5);
-        String before = Villages.everything(x);
+    }
+
+    private static void askWhy(StickVotes x) {
         CHECKS.is("why(3, 0, 1)", x.why(3, 0, 1), 0);
         CHECKS.is("why(3, 0, 0)", x.why(3, 0, 0), 3);
         CHECKS.is("why(3, 1, 0)", x.why(3, 1, 0), 0);
@@ -347,12 +361,21 @@ public final class SticksTest {
         CHECKS.is("why(3, 3, 2)", x.why(3, 3, 2), -5);
         CHECKS.is("why(1, 1, 0) at sea", x.why(1, 1, 0), -3);
         CHECKS.is("why(2, 0, 0)", x.why(2, 0, 0), -4);
-        CHECKS.is("why() changes nothing", Villages.everything(x), before);
-        x.lay(3, 1, 0);
-        CHECKS.is("why(3, 0, 1), too many", x.why(3, 0, 1), 2);
-        CHECKS.is("why(3, 4, 1), ashore", x.why(3, 4, 1), 1);
-        CHECKS.is("why(3, 3, 1), the own one", x.why(3, 3, 1), 0);
-        x.close();
-        CHECKS.is("why(3, 0, 1), closed", x.why(3, 0, 1), -5);
+    }
+
+    private static void whyChangesNothing() {
+        String behind = Villages.everything(new Again(50, () -> {
+            StickVotes x = amiIsOut();
+            askWhy(x);
+            return x;
+        }));
+        CHECKS.is("why() changes nothing", behind, Villages.everything(new Again(50, SticksTest::amiIsOut)));
+    }
+
+    private static StickVotes amiIsOut() {
+        StickVotes x = Villages.port();
+        danCarriesThree(x);
+        x.sail(0, 5);
+        return x;
     }
 }

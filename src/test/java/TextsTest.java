@@ -125,17 +125,22 @@ public final class TextsTest {
     }
 
     private static void storyOfTheLatestEntries() {
-        StickVotes x = Villages.port();
         StringBuilder due = new StringBuilder();
-        for (int i = 0; i < 200; i++) {
+        for (int day = 99 * 86; day <= 99 * 100; day += 99) {
+            due.append(day).append(" sails 1 ").append(day + 98).append('\n');
+            due.append(day).append(" home 1 1\n");
+        }
+        String story = Villages.story(new Again(350, TextsTest::hundredShortTrips));
+        CHECKS.is("story of 200 entries", story, due.toString());
+    }
+
+    private static StickVotes hundredShortTrips() {
+        StickVotes x = Villages.port();
+        for (int i = 0; i < 100; i++) {
             x.pass(99);
             x.sail(1, 98);
-            if (i >= 185) {
-                due.append(99 * (i + 1)).append(" sails 1 ").append(99 * (i + 1) + 98).append('\n');
-                due.append(99 * (i + 1)).append(" home 1 1\n");
-            }
             x.comeHome(1);
         }
-        CHECKS.is("story of 400 entries", Villages.story(x), due.toString());
+        return x;
     }
 }

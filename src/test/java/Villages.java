@@ -1,4 +1,5 @@
 import java.util.function.IntUnaryOperator;
+import java.util.function.Supplier;
 
 /** Makes villages from setup texts, and reads texts and states out of them. */
 final class Villages {
@@ -69,23 +70,33 @@ final class Villages {
     }
 
     static String view(StickVotes x) {
-        StringBuilder text = new StringBuilder();
-        int length = x.viewLength();
-        for (int i = 0; i < length; i++) text.append((char) x.viewByte(i));
-        return text.toString();
+        return view(() -> x);
+    }
+
+    /** The view; the village is handed out once for each call, as by Again. */
+    static String view(Supplier<StickVotes> x) {
+        return text(x.get().viewLength(), i -> x.get().viewByte(i));
     }
 
     static String story(StickVotes x) {
-        StringBuilder text = new StringBuilder();
-        int length = x.storyLength();
-        for (int i = 0; i < length; i++) text.append((char) x.storyByte(i));
-        return text.toString();
+        return story(() -> x);
+    }
+
+    static String story(Supplier<StickVotes> x) {
+        return text(x.get().storyLength(), i -> x.get().storyByte(i));
     }
 
     static String setup(StickVotes x) {
+        return setup(() -> x);
+    }
+
+    static String setup(Supplier<StickVotes> x) {
+        return text(x.get().setupLength(), i -> x.get().setupByte(i));
+    }
+
+    private static String text(int length, IntUnaryOperator byteAt) {
         StringBuilder text = new StringBuilder();
-        int length = x.setupLength();
-        for (int i = 0; i < length; i++) text.append((char) x.setupByte(i));
+        for (int i = 0; i < length; i++) text.append((char) byteAt.applyAsInt(i));
         return text.toString();
     }
 
@@ -95,29 +106,37 @@ final class Villages {
 
     /** All that can be asked about a village, but for the tape, the slots and the undo steps. */
     static String everything(StickVotes x) {
+        return everything(() -> x);
+    }
+
+    static String everything(Supplier<StickVotes> x) {
         StringBuilder all = new StringBuilder();
-        for (int what = 0; what <= 16; what++) all.append(x.value(what)).append(' ');
-        for (int p = 0; p < x.value(2); p++) {
-            for (int what = 0; what <= 6; what++) all.append(x.person(p, what)).append(' ');
-            for (int what = 0; what <= 5; what++) all.append(x.stick(p, what)).append(' ');
-            all.append(x.carries(p)).append('\n');
+        int people = x.get().value(2);
+        int boats = x.get().value(3);
+        int votes = x.get().value(13);
+        for (int what = 0; what <= 16; what++) all.append(x.get().value(what)).append(' ');
+        for (int p = 0; p < people; p++) {
+            for (int what = 0; what <= 6; what++) all.append(x.get().person(p, what)).append(' ');
+            for (int what = 0; what <= 5; what++) all.append(x.get().stick(p, what)).append(' ');
+            all.append(x.get().carries(p)).append('\n');
         }
-        for (int b = 0; b < x.value(3); b++) {
-            for (int what = 0; what <= 4; what++) all.append(x.boat(b, what)).append(' ');
-            all.append(x.needIfHome(b)).append('\n');
+        for (int b = 0; b < boats; b++) {
+            for (int what = 0; what <= 4; what++) all.append(x.get().boat(b, what)).append(' ');
+            all.append(x.get().needIfHome(b)).append('\n');
         }
         for (int b = 0; b < 4; b++) {
-            all.append(x.basket(b)).append(' ').append(x.owners(b)).append(' ');
-            all.append(x.canWin(b)).append(' ').append(x.share(b)).append('\n');
+            all.append(x.get().basket(b)).append(' ').append(x.get().owners(b)).append(' ');
+            all.append(x.get().canWin(b)).append(' ').append(x.get().share(b)).append('\n');
         }
-        for (int v = 0; v < x.value(13); v++) {
-            for (int what = 0; what <= 3; what++) all.append(x.past(v, what)).append(' ');
+        for (int v = 0; v < votes; v++) {
+            for (int what = 0; what <= 3; what++) all.append(x.get().past(v, what)).append(' ');
         }
-        for (int what = 0; what <= 9; what++) all.append(x.number(what)).append(' ');
-        all.append(x.leads()).append(' ').append(x.truly()).append(' ').append(x.decisive());
-        all.append(' ').append(x.lacks()).append(' ').append(x.mightiest()).append(' ');
-        all.append(x.agrees()).append(' ').append(x.seafaring()).append(' ').append(x.wrongOnes());
-        all.append(' ').append(x.needIn(7)).append(' ').append(x.bestDay(20)).append('\n');
+        for (int what = 0; what <= 9; what++) all.append(x.get().number(what)).append(' ');
+        all.append(x.get().leads()).append(' ').append(x.get().truly()).append(' ');
+        all.append(x.get().decisive()).append(' ').append(x.get().lacks()).append(' ');
+        all.append(x.get().mightiest()).append(' ').append(x.get().agrees()).append(' ');
+        all.append(x.get().seafaring()).append(' ').append(x.get().wrongOnes()).append(' ');
+        all.append(x.get().needIn(7)).append(' ').append(x.get().bestDay(20)).append('\n');
         return all.append(view(x)).append(story(x)).append(setup(x)).toString();
     }
 }

@@ -340,13 +340,28 @@ public final class WouldBeTest {
     }
 
     private static void askingChangesNothing() {
+        String behind = Villages.everything(new Again(100, () -> {
+            StickVotes x = twoAreLaid();
+            askMuch(x);
+            return x;
+        }));
+        CHECKS.is("all stays", behind, Villages.everything(new Again(100, WouldBeTest::twoAreLaid)));
+        StickVotes x = twoAreLaid();
+        askMuch(x);
+        CHECKS.is("undo()", x.undo(), 4);
+    }
+
+    private static StickVotes twoAreLaid() {
         StickVotes x = six(2, 1);
         x.give(0, 3, 1);
         x.sail(0, 9);
         x.open(3);
         x.lay(3, 0, 0);
         x.lay(4, 4, 0);
-        String due = Villages.everything(x);
+        return x;
+    }
+
+    private static void askMuch(StickVotes x) {
         for (int i = -2; i < 8; i++) {
             x.needIfHome(i);
             x.canWin(i);
@@ -356,7 +371,9 @@ public final class WouldBeTest {
         }
         x.truly();
         x.decisive();
-        CHECKS.is("all stays", Villages.everything(x), due);
-        CHECKS.is("undo()", x.undo(), 4);
+        x.leads();
+        x.lacks();
+        x.mightiest();
+        x.agrees();
     }
 }
