@@ -23,7 +23,7 @@ public final class ReadmeTest {
     private static final Checks CHECKS = new Checks("ReadmeTest");
     private static final Path README = Path.of("README.md");
     private static final Path TESTS = Path.of("src", "test", "java");
-    private static final Path BUILD = Path.of("build", "readme");
+    private static final Path BUILD = Path.of("build");
     // An object is used for at most 512 calls; put() needs 40 at most, as the tape has 800 bytes.
     private static final int MAX_CALLS = 512;
     private static final int CALLS_OF_PUT = 40;
@@ -52,12 +52,15 @@ public final class ReadmeTest {
         Block program = programAmong(blocks);
         List<String> lines = exampleLines(blocks);
         List<Example> examples = examplesIn(lines);
-        compile(program, lines);
-        try (URLClassLoader made = new URLClassLoader(new URL[] {BUILD.toUri().toURL()})) {
+        // A folder of its own, so that two runs at once do not write into one another's.
+        Path folder = Files.createTempDirectory(Files.createDirectories(BUILD), "readme");
+        compile(folder, program, lines);
+        try (URLClassLoader made = new URLClassLoader(new URL[] {folder.toUri().toURL()})) {
             programPrints(made, program, blocks);
             callsAnswer(made, examples);
             textsAreShown(made, examples, blocks);
         }
+        delete(folder);
         everyCallIsThere(readme, examples);
         everyTestIsThere(readme);
         CHECKS.end();
@@ -120,7 +123,7 @@ public final class ReadmeTest {
     }
 
     /** Compiles the program, and a class that makes all calls in their order and tells their answers. */
-    private static void compile(Block program, List<String> lines) throws IOException {
+    private static void compile(Path folder, Block program, List<String> lines) throws IOException {
         StringBuilder calls = new StringBuilder("public final class ReadmeCalls {\n"
             + "public static StickVotes run(java.util.List<Object> answers) {\n");
         for (String line : lines) {
@@ -128,14 +131,20 @@ public final class ReadmeTest {
             calls.append(call.matches() ? "answers.add(" + call.group(1) + ");" : line).append('\n');
         }
         calls.append("return village;\n}\n}\n");
-        Files.createDirectories(BUILD);
-        Path first = Files.writeString(BUILD.resolve(nameOf(program) + ".java"), program.text());
-        Path second = Files.writeString(BUILD.resolve("ReadmeCalls.java"), calls.toString());
+        Path first = Files.writeString(folder.resolve(nameOf(program) + ".java"), program.text());
+        Path second = Files.writeString(folder.resolve("ReadmeCalls.java"), calls.toString());
         JavaCompiler compiler = ToolProvider.getSystemJavaCompiler();
         if (compiler == null) throw new IllegalStateException("a JDK is needed, not a runtime alone");
-        int result = compiler.run(null, null, null, "-Xlint:all", "-Werror", "-d", BUILD.toString(),
+        int result = compiler.run(null, null, null, "-Xlint:all", "-Werror", "-d", folder.toString(),
             "-cp", System.getProperty("java.class.path"), first.toString(), second.toString());
         if (result != 0) throw new IllegalStateException("what README.md shows does not compile");
+    }
+
+    private static void delete(Path folder) throws IOException {
+        try (var files = Files.newDirectoryStream(folder)) {
+            for (Path file : files) Files.delete(file);
+        }
+        Files.delete(folder);
     }
 
     /** The block behind the program and its command is what it prints. */
